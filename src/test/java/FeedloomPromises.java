@@ -1,22 +1,5 @@
-import java.util.NoSuchElementException;
-import java.util.Objects;
-import java.util.concurrent.Callable;
-
 /** A test or more for each promise of the document: ordinary inputs, the named edges and wrong inputs. */
-public final class FeedloomPromises {
-    private static final int NONE = Feedloom.NONE;
-    private static final int HIDE = Feedloom.HIDE;
-    private static final int SHOW = Feedloom.SHOW;
-    private static final Class<?> INDEX = IndexOutOfBoundsException.class;
-    private static final Class<?> ARGUMENT = IllegalArgumentException.class;
-    private static final Class<?> STATE = IllegalStateException.class;
-    private static final Class<?> ELEMENT = NoSuchElementException.class;
-    private static final Class<?> ARITHMETIC = ArithmeticException.class;
-
-    private static int wrong = 0;
-    private static int checked = 0;
-    private static String promise = "";
-
+public final class FeedloomPromises extends Checks {
     public static void main(String[] args) {
         newObject();
         pass();
@@ -66,98 +49,14 @@ public final class FeedloomPromises {
         isSound();
         fullHouse();
         constants();
-        System.out.println(checked + " answers checked, " + wrong + " not as due");
-        if (wrong != 0) {
-            System.exit(1);
-        }
-    }
-
-    // ---- helpers
-
-    private static Object outcome(Callable<?> call) {
-        try {
-            return call.call();
-        } catch (Exception e) {
-            return e.getClass();
-        }
-    }
-
-    private static void due(String what, Object want, Callable<?> call) {
-        checked++;
-        Object got = outcome(call);
-        if (!Objects.equals(got, want)) {
-            wrong++;
-            System.out.println(promise + ": " + what + " answered " + got + ", due is " + want);
-        }
-    }
-
-    /** The call throws exactly the given class, and every question answers afterwards as it did before. */
-    private static void refused(String what, Feedloom x, Class<?> want, Callable<?> call) {
-        String before = allAnswers(x);
-        due(what, want, call);
-        String after = allAnswers(x);
-        checked++;
-        if (!before.equals(after)) {
-            wrong++;
-            System.out.println(promise + ": " + what + " changed the object");
-        }
-    }
-
-    private static String allAnswers(Feedloom x) {
-        StringBuilder text = new StringBuilder();
-        text.append(x.now()).append(' ').append(x.items()).append(' ').append(outcome(x::meanVersions)).append(x.isSound());
-        for (int i = 0; i < x.items(); i++) {
-            int item = i;
-            text.append("\ni").append(x.versions(i)).append(' ').append(x.latestMajor(i)).append(' ')
-                .append(x.sourcesOf(i)).append(' ').append(x.timeOf(i)).append(' ').append(x.tagsOf(i))
-                .append(x.isHidden(i)).append(x.isRead(i));
-            for (int version = 0; version < x.versions(i); version++) {
-                int v = version;
-                text.append(' ').append(outcome(() -> x.title(item, v)));
-            }
-            for (int device = 0; device < 4; device++) {
-                int d = device;
-                text.append(' ').append(outcome(() -> x.knownVersions(d, item))).append(outcome(() -> x.isReadOn(d, item)));
-            }
-        }
-        for (int number = 0; number < 6; number++) {
-            int n = number;
-            text.append("\nr").append(outcome(() -> x.matches(n))).append(' ').append(outcome(() -> x.riverSize(n)))
-                .append(outcome(() -> x.unread(n))).append(outcome(() -> x.readShare(n)));
-            for (int rank = 0; rank < x.items(); rank++) {
-                int k = rank;
-                text.append(' ').append(outcome(() -> x.riverAt(n, k)));
-            }
-        }
-        for (int key = 0; key < 12; key++) {
-            int k = key;
-            text.append("\nk").append(outcome(() -> x.withLink(k)));
-            for (int source = 0; source < 6; source++) {
-                int s = source;
-                text.append(' ').append(outcome(() -> x.withIdentifier(s, k)));
-            }
-        }
-        return text.toString();
-    }
-
-    private static Feedloom withSources(int count) {
-        Feedloom x = new Feedloom();
-        for (int i = 0; i < count; i++) {
-            x.addSource();
-        }
-        return x;
-    }
-
-    /** Fetches an item of its own: the words are apart from those of other numbers below 32. */
-    private static int plainItem(Feedloom x, int source, int number) {
-        return x.fetch(source, 100 + number, NONE, 3L << 2 * number, NONE);
+        end();
     }
 
     // ---- time and settings
 
     private static void newObject() {
-        promise = "1 Feedloom()";
-        Feedloom x = new Feedloom();
+        promise("1 Feedloom()");
+        Reader x = new Reader();
         due("now", 0, x::now);
         due("items", 0, x::items);
         due("no source", INDEX, () -> x.fetch(0, NONE, NONE, 1L, NONE));
@@ -170,8 +69,8 @@ public final class FeedloomPromises {
     }
 
     private static void pass() {
-        promise = "2 pass";
-        Feedloom x = new Feedloom();
+        promise("2 pass");
+        Reader x = new Reader();
         due("1", 1, () -> x.pass(1));
         due("2000", 2001, () -> x.pass(2000));
         refused("0", x, ARGUMENT, () -> x.pass(0));
@@ -190,8 +89,8 @@ public final class FeedloomPromises {
     }
 
     private static void now() {
-        promise = "3 now";
-        Feedloom x = new Feedloom();
+        promise("3 now");
+        Reader x = new Reader();
         x.pass(7);
         x.pass(35);
         due("42", 42, x::now);
@@ -199,8 +98,8 @@ public final class FeedloomPromises {
     }
 
     private static void setThreshold() {
-        promise = "4 setThreshold";
-        Feedloom x = withSources(1);
+        promise("4 setThreshold");
+        Reader x = withSources(1);
         due("first", 60, () -> x.setThreshold(1));
         due("second", 1, () -> x.setThreshold(100));
         due("third", 100, () -> x.setThreshold(50));
@@ -220,8 +119,8 @@ public final class FeedloomPromises {
     }
 
     private static void setWindow() {
-        promise = "5 setWindow";
-        Feedloom x = new Feedloom();
+        promise("5 setWindow");
+        Reader x = new Reader();
         due("first", 180, () -> x.setWindow(0));
         due("second", 0, () -> x.setWindow(1440));
         due("third", 1440, () -> x.setWindow(5));
@@ -231,8 +130,8 @@ public final class FeedloomPromises {
     }
 
     private static void likeness() {
-        promise = "6 likeness";
-        Feedloom x = new Feedloom();
+        promise("6 likeness");
+        Reader x = new Reader();
         due("same", 100, () -> x.likeness(5L, 5L));
         due("apart", 0, () -> x.likeness(1L, 2L));
         due("1 of 3, down", 33, () -> x.likeness(3L, 5L));
@@ -248,8 +147,8 @@ public final class FeedloomPromises {
     // ---- sources and items
 
     private static void addSource() {
-        promise = "7 addSource";
-        Feedloom x = new Feedloom();
+        promise("7 addSource");
+        Reader x = new Reader();
         for (int i = 0; i < 6; i++) {
             due("source", i, x::addSource);
         }
@@ -259,8 +158,8 @@ public final class FeedloomPromises {
     }
 
     private static void fetchRefuses() {
-        promise = "8 fetch refuses";
-        Feedloom x = withSources(2);
+        promise("8 fetch refuses");
+        Reader x = withSources(2);
         x.fetch(0, 0, 999, 1L, 99999);
         x.fetch(1, 999, 0, 2L, 0);
         refused("source -1", x, INDEX, () -> x.fetch(-1, 1, 1, 4L, 0));
@@ -283,8 +182,8 @@ public final class FeedloomPromises {
     }
 
     private static void fetchFindsByPair() {
-        promise = "8 fetch by pair";
-        Feedloom x = withSources(2);
+        promise("8 fetch by pair");
+        Reader x = withSources(2);
         due("new", 0, () -> x.fetch(0, 5, 1, 1L, NONE));
         due("new of the other source", 1, () -> x.fetch(1, 5, 2, 2L, NONE));
         due("pair of 0", 0, () -> x.fetch(0, 5, NONE, 4L, NONE));
@@ -297,8 +196,8 @@ public final class FeedloomPromises {
     }
 
     private static void fetchFindsByLink() {
-        promise = "8 fetch by link";
-        Feedloom x = withSources(2);
+        promise("8 fetch by link");
+        Reader x = withSources(2);
         x.fetch(0, 1, 7, 1L, NONE);
         x.fetch(0, 2, 8, 2L, NONE);
         due("link ahead of likeness", 0, () -> x.fetch(1, 3, 7, 2L, NONE));
@@ -310,22 +209,22 @@ public final class FeedloomPromises {
     }
 
     private static void fetchFindsByLikeness() {
-        promise = "8 fetch by likeness";
-        Feedloom x = withSources(2);
+        promise("8 fetch by likeness");
+        Reader x = withSources(2);
         x.setThreshold(50);
         x.fetch(0, 1, NONE, 0b1111L, NONE);
         x.fetch(0, 2, NONE, 0b1111_0000L, NONE);
         due("exactly 50", 0, () -> x.fetch(1, 3, NONE, 0b11L, NONE));
         due("its latest version counts", 2, () -> x.fetch(1, 4, NONE, 0b1100L, NONE));
-        Feedloom z = withSources(1);
+        Reader z = withSources(1);
         z.setThreshold(50);
         z.fetch(0, 1, NONE, (1L << 27) - 1, NONE);
         due("27 of 55 words are 49, too little at 50", 1, () -> z.fetch(0, 2, NONE, (1L << 55) - 1, NONE));
-        Feedloom w = withSources(1);
+        Reader w = withSources(1);
         w.setThreshold(49);
         w.fetch(0, 1, NONE, (1L << 27) - 1, NONE);
         due("and enough at 49", 0, () -> w.fetch(0, 2, NONE, (1L << 55) - 1, NONE));
-        Feedloom y = withSources(1);
+        Reader y = withSources(1);
         y.setThreshold(20);
         y.fetch(0, 1, NONE, 0b0000_0011L, NONE);
         y.fetch(0, 2, NONE, 0b0000_1100L, NONE);
@@ -335,8 +234,8 @@ public final class FeedloomPromises {
     }
 
     private static void fetchWindow() {
-        promise = "8 fetch window";
-        Feedloom x = withSources(1);
+        promise("8 fetch window");
+        Reader x = withSources(1);
         x.fetch(0, NONE, NONE, 1L, NONE);
         x.pass(180);
         due("180 minutes ago", 0, () -> x.fetch(0, NONE, NONE, 1L, NONE));
@@ -357,8 +256,8 @@ public final class FeedloomPromises {
     }
 
     private static void fetchGivesPairsAndLinks() {
-        promise = "8 fetch gives pairs and links";
-        Feedloom x = withSources(3);
+        promise("8 fetch gives pairs and links");
+        Reader x = withSources(3);
         x.fetch(0, 1, 1, 1L, NONE);
         x.fetch(0, 2, 2, 2L, NONE);
         due("more links", 0, () -> x.fetch(0, 1, 3, 1L, NONE));
@@ -375,8 +274,8 @@ public final class FeedloomPromises {
     }
 
     private static void fetchGivesVersions() {
-        promise = "8 fetch gives versions";
-        Feedloom x = withSources(1);
+        promise("8 fetch gives versions");
+        Reader x = withSources(1);
         x.fetch(0, 1, NONE, 1L, NONE);
         x.fetch(0, 1, NONE, 1L, NONE);
         due("same title", 1, () -> x.versions(0));
@@ -387,8 +286,8 @@ public final class FeedloomPromises {
     }
 
     private static void items() {
-        promise = "9 items";
-        Feedloom x = withSources(1);
+        promise("9 items");
+        Reader x = withSources(1);
         due("none", 0, x::items);
         for (int i = 0; i < 30; i++) {
             due("number", i, () -> plainItem(x, 0, x.items()));
@@ -398,8 +297,8 @@ public final class FeedloomPromises {
     }
 
     private static void withIdentifier() {
-        promise = "10 withIdentifier";
-        Feedloom x = withSources(6);
+        promise("10 withIdentifier");
+        Reader x = withSources(6);
         x.fetch(0, 0, NONE, 1L, NONE);
         x.fetch(5, 999, NONE, 2L, NONE);
         due("first", 0, () -> x.withIdentifier(0, 0));
@@ -420,8 +319,8 @@ public final class FeedloomPromises {
     }
 
     private static void withLink() {
-        promise = "11 withLink";
-        Feedloom x = withSources(1);
+        promise("11 withLink");
+        Reader x = withSources(1);
         x.fetch(0, NONE, 0, 1L, NONE);
         x.fetch(0, NONE, 999, 2L, NONE);
         x.fetch(0, NONE, NONE, 4L, NONE);
@@ -435,8 +334,8 @@ public final class FeedloomPromises {
     }
 
     private static void title() {
-        promise = "12 title";
-        Feedloom x = withSources(1);
+        promise("12 title");
+        Reader x = withSources(1);
         for (int i = 0; i < 4; i++) {
             x.fetch(0, 1, NONE, 1L << i, NONE);
         }
@@ -455,8 +354,8 @@ public final class FeedloomPromises {
     }
 
     private static void versions() {
-        promise = "13 versions";
-        Feedloom x = withSources(1);
+        promise("13 versions");
+        Reader x = withSources(1);
         plainItem(x, 0, 0);
         plainItem(x, 0, 1);
         for (int i = 0; i < 9; i++) {
@@ -469,8 +368,8 @@ public final class FeedloomPromises {
     }
 
     private static void latestMajor() {
-        promise = "14 latestMajor";
-        Feedloom x = withSources(1);
+        promise("14 latestMajor");
+        Reader x = withSources(1);
         x.fetch(0, 1, NONE, 0b11111L, NONE);
         due("the version 0", 0, () -> x.latestMajor(0));
         x.fetch(0, 1, NONE, 0b111L, NONE);
@@ -490,8 +389,8 @@ public final class FeedloomPromises {
     }
 
     private static void sourcesOf() {
-        promise = "15 sourcesOf";
-        Feedloom x = withSources(6);
+        promise("15 sourcesOf");
+        Reader x = withSources(6);
         x.fetch(5, 1, 1, 1L, NONE);
         due("32", 32, () -> x.sourcesOf(0));
         x.fetch(0, NONE, 1, 1L, NONE);
@@ -504,8 +403,8 @@ public final class FeedloomPromises {
     }
 
     private static void timeOf() {
-        promise = "16 timeOf";
-        Feedloom x = withSources(1);
+        promise("16 timeOf");
+        Reader x = withSources(1);
         x.pass(2000);
         x.fetch(0, 0, NONE, 1L, NONE);
         x.fetch(0, 1, NONE, 2L, 2000);
@@ -524,7 +423,7 @@ public final class FeedloomPromises {
         due("does not change", 1234, () -> x.timeOf(5));
         due("item -1", INDEX, () -> x.timeOf(-1));
         due("item 6", INDEX, () -> x.timeOf(6));
-        Feedloom y = withSources(1);
+        Reader y = withSources(1);
         y.pass(9);
         y.fetch(0, 0, NONE, 1L, 0);
         due("told the minute 0", 0, () -> y.timeOf(0));
@@ -533,8 +432,8 @@ public final class FeedloomPromises {
     // ---- rules
 
     private static void addRule() {
-        promise = "17 addRule";
-        Feedloom x = withSources(1);
+        promise("17 addRule");
+        Reader x = withSources(1);
         plainItem(x, 0, 0);
         due("least", 0, () -> x.addRule(0L, 0L, 0, NONE, 0));
         due("greatest", 1, () -> x.addRule(-1L, -1L, 63, 7, SHOW));
@@ -552,8 +451,8 @@ public final class FeedloomPromises {
     }
 
     private static void dropRule() {
-        promise = "18 dropRule";
-        Feedloom x = withSources(1);
+        promise("18 dropRule");
+        Reader x = withSources(1);
         x.fetch(0, 0, NONE, 1L, NONE);
         refused("none", x, INDEX, () -> x.dropRule(0));
         for (int i = 0; i < 6; i++) {
@@ -574,7 +473,7 @@ public final class FeedloomPromises {
     }
 
     private static void dropRuleMovesAll() {
-        Feedloom x = withSources(2);
+        Reader x = withSources(2);
         x.fetch(0, 0, NONE, 0b0011L, NONE);
         x.fetch(1, 1, NONE, 0b1100L, NONE);
         x.addRule(0L, 0L, 0, NONE, 0);
@@ -590,8 +489,8 @@ public final class FeedloomPromises {
     }
 
     private static void tagsOf() {
-        promise = "19 tagsOf";
-        Feedloom x = withSources(2);
+        promise("19 tagsOf");
+        Reader x = withSources(2);
         x.fetch(0, 0, NONE, 0b0111L, NONE);
         x.fetch(1, 1, NONE, 0b11000L, NONE);
         due("no rules", 0, () -> x.tagsOf(0));
@@ -611,7 +510,7 @@ public final class FeedloomPromises {
         due("its sources now", 0b11000110, () -> x.tagsOf(0));
         due("item -1", INDEX, () -> x.tagsOf(-1));
         due("item 2", INDEX, () -> x.tagsOf(2));
-        Feedloom y = withSources(1);
+        Reader y = withSources(1);
         y.fetch(0, 0, NONE, 1L, NONE);
         y.addRule(0L, 0L, 0, 1, 0);
         y.addRule(0L, 0L, 0, NONE, 1);
@@ -623,8 +522,8 @@ public final class FeedloomPromises {
     }
 
     private static void isHidden() {
-        promise = "20 isHidden";
-        Feedloom x = withSources(1);
+        promise("20 isHidden");
+        Reader x = withSources(1);
         x.fetch(0, 0, NONE, 0b01L, NONE);
         x.fetch(0, 1, NONE, 0b10L, NONE);
         due("no rules", false, () -> x.isHidden(0));
@@ -645,8 +544,8 @@ public final class FeedloomPromises {
     }
 
     private static void matches() {
-        promise = "21 matches";
-        Feedloom x = withSources(2);
+        promise("21 matches");
+        Reader x = withSources(2);
         x.addRule(0b001L, 0L, 0, NONE, HIDE);
         due("no items", 0, () -> x.matches(0));
         x.fetch(0, 0, NONE, 0b001L, NONE);
@@ -670,8 +569,8 @@ public final class FeedloomPromises {
     // ---- rivers
 
     private static void addRiver() {
-        promise = "22 addRiver";
-        Feedloom x = withSources(1);
+        promise("22 addRiver");
+        Reader x = withSources(1);
         plainItem(x, 0, 0);
         due("least", 0, () -> x.addRiver(1, NONE));
         due("greatest", 1, () -> x.addRiver(63, 7));
@@ -687,8 +586,8 @@ public final class FeedloomPromises {
     }
 
     private static void riverSize() {
-        promise = "23 riverSize";
-        Feedloom x = withSources(3);
+        promise("23 riverSize");
+        Reader x = withSources(3);
         x.addRiver(0b011, NONE);
         x.addRiver(0b110, 2);
         x.addRiver(0b100000, NONE);
@@ -709,8 +608,8 @@ public final class FeedloomPromises {
         due("river 3", INDEX, () -> x.riverSize(3));
     }
 
-    private static Feedloom orderedRivers() {
-        Feedloom x = withSources(2);
+    private static Reader orderedRivers() {
+        Reader x = withSources(2);
         x.addRiver(3, NONE);
         x.addRiver(2, NONE);
         x.pass(100);
@@ -723,41 +622,41 @@ public final class FeedloomPromises {
     }
 
     private static void riverAt() {
-        Feedloom x = orderedRivers();
+        Reader x = orderedRivers();
         int[] whole = {4, 1, 2, 0, 3};
         int[] part = {4, 1, 3};
         for (int rank = 0; rank < 5; rank++) {
             int k = rank;
-            promise = "24 riverAt";
+            promise("24 riverAt");
             due("the latest first", whole[k], () -> x.riverAt(0, k));
             due("of one source", k < 3 ? part[k] : ELEMENT, () -> x.riverAt(1, k));
-            promise = "25 riverAtAnew";
+            promise("25 riverAtAnew");
             due("the latest first", whole[k], () -> x.riverAtAnew(0, k));
             due("of one source", k < 3 ? part[k] : ELEMENT, () -> x.riverAtAnew(1, k));
         }
-        promise = "24 riverAt";
+        promise("24 riverAt");
         due("rank 5", ELEMENT, () -> x.riverAt(0, 5));
         due("rank -1", ELEMENT, () -> x.riverAt(0, -1));
         due("greatest rank", ELEMENT, () -> x.riverAt(0, Integer.MAX_VALUE));
         due("river -1", INDEX, () -> x.riverAt(-1, 0));
         due("river 2, ahead of the rank", INDEX, () -> x.riverAt(2, -1));
-        promise = "25 riverAtAnew";
+        promise("25 riverAtAnew");
         due("rank 5", ELEMENT, () -> x.riverAtAnew(0, 5));
         due("rank -1", ELEMENT, () -> x.riverAtAnew(0, -1));
         due("greatest rank", ELEMENT, () -> x.riverAtAnew(0, Integer.MAX_VALUE));
         due("river -1", INDEX, () -> x.riverAtAnew(-1, 0));
         due("river 2, ahead of the rank", INDEX, () -> x.riverAtAnew(2, -1));
         x.addRule(3L << 2, 0L, 0, NONE, HIDE);
-        promise = "24 riverAt";
+        promise("24 riverAt");
         due("hidden", 2, () -> x.riverAt(0, 1));
-        promise = "25 riverAtAnew";
+        promise("25 riverAtAnew");
         due("hidden", 2, () -> x.riverAtAnew(0, 1));
         due("changes nothing", 2, () -> x.riverAt(0, 1));
     }
 
     private static void rankOf() {
-        promise = "26 rankOf";
-        Feedloom x = orderedRivers();
+        promise("26 rankOf");
+        Reader x = orderedRivers();
         due("first", 0, () -> x.rankOf(0, 4));
         due("last", 4, () -> x.rankOf(0, 3));
         due("same time", 2, () -> x.rankOf(0, 2));
@@ -770,8 +669,8 @@ public final class FeedloomPromises {
     }
 
     private static void unread() {
-        promise = "27 unread";
-        Feedloom x = orderedRivers();
+        promise("27 unread");
+        Reader x = orderedRivers();
         x.addDevice();
         due("all", 5, () -> x.unread(0));
         x.mark(0, 1, true);
@@ -789,8 +688,8 @@ public final class FeedloomPromises {
     }
 
     private static void nextUnread() {
-        promise = "28 nextUnread";
-        Feedloom x = orderedRivers();
+        promise("28 nextUnread");
+        Reader x = orderedRivers();
         x.addDevice();
         due("the first", 4, () -> x.nextUnread(0));
         x.mark(0, 4, true);
@@ -811,8 +710,8 @@ public final class FeedloomPromises {
     }
 
     private static void readShare() {
-        promise = "29 readShare";
-        Feedloom x = withSources(2);
+        promise("29 readShare");
+        Reader x = withSources(2);
         x.addRiver(1, NONE);
         x.addRiver(2, NONE);
         due("no items", ARITHMETIC, () -> x.readShare(0));
@@ -835,8 +734,8 @@ public final class FeedloomPromises {
     // ---- devices and marks
 
     private static void addDevice() {
-        promise = "30 addDevice";
-        Feedloom x = withSources(1);
+        promise("30 addDevice");
+        Reader x = withSources(1);
         plainItem(x, 0, 0);
         due("first", 0, x::addDevice);
         x.mark(0, 0, true);
@@ -855,8 +754,8 @@ public final class FeedloomPromises {
     }
 
     private static void mark() {
-        promise = "31 mark";
-        Feedloom x = withSources(1);
+        promise("31 mark");
+        Reader x = withSources(1);
         plainItem(x, 0, 0);
         x.addDevice();
         plainItem(x, 0, 1);
@@ -883,8 +782,8 @@ public final class FeedloomPromises {
     }
 
     private static void markRiver() {
-        promise = "32 markRiver";
-        Feedloom x = withSources(2);
+        promise("32 markRiver");
+        Reader x = withSources(2);
         x.addRiver(1, NONE);
         x.addRiver(2, NONE);
         for (int i = 0; i < 4; i++) {
@@ -913,7 +812,7 @@ public final class FeedloomPromises {
     }
 
     private static void markRiverRenewsMinutes() {
-        Feedloom x = withSources(1);
+        Reader x = withSources(1);
         x.addRiver(1, NONE);
         plainItem(x, 0, 0);
         x.addDevice();
@@ -928,8 +827,8 @@ public final class FeedloomPromises {
     }
 
     private static void syncKinds() {
-        promise = "33 sync, kinds";
-        Feedloom x = withSources(1);
+        promise("33 sync, kinds");
+        Reader x = withSources(1);
         for (int i = 0; i < 3; i++) {
             plainItem(x, 0, i);
         }
@@ -953,8 +852,8 @@ public final class FeedloomPromises {
     }
 
     private static void syncMinutes() {
-        promise = "33 sync, minutes";
-        Feedloom x = withSources(1);
+        promise("33 sync, minutes");
+        Reader x = withSources(1);
         plainItem(x, 0, 0);
         plainItem(x, 0, 1);
         x.addDevice();
@@ -975,8 +874,8 @@ public final class FeedloomPromises {
     }
 
     private static void syncVersions() {
-        promise = "33 sync, versions";
-        Feedloom x = withSources(1);
+        promise("33 sync, versions");
+        Reader x = withSources(1);
         plainItem(x, 0, 0);
         x.addDevice();
         x.fetch(0, 100, NONE, 1L << 40, NONE);
@@ -1007,8 +906,8 @@ public final class FeedloomPromises {
     }
 
     private static void syncUnknown() {
-        promise = "33 sync, unknown items";
-        Feedloom x = withSources(1);
+        promise("33 sync, unknown items");
+        Reader x = withSources(1);
         x.addDevice();
         plainItem(x, 0, 0);
         x.addDevice();
@@ -1025,8 +924,8 @@ public final class FeedloomPromises {
     }
 
     private static void isRead() {
-        promise = "34 isRead";
-        Feedloom x = withSources(1);
+        promise("34 isRead");
+        Reader x = withSources(1);
         x.fetch(0, 1, NONE, 0b11111L, NONE);
         x.fetch(0, 2, NONE, 1L << 40, NONE);
         x.addDevice();
@@ -1045,8 +944,8 @@ public final class FeedloomPromises {
     }
 
     private static void isReadOn() {
-        promise = "35 isReadOn";
-        Feedloom x = withSources(1);
+        promise("35 isReadOn");
+        Reader x = withSources(1);
         x.fetch(0, 1, NONE, 0b11111L, NONE);
         x.addDevice();
         x.fetch(0, 2, NONE, 1L << 40, NONE);
@@ -1065,8 +964,8 @@ public final class FeedloomPromises {
     }
 
     private static void knownVersions() {
-        promise = "36 knownVersions";
-        Feedloom x = withSources(1);
+        promise("36 knownVersions");
+        Reader x = withSources(1);
         plainItem(x, 0, 0);
         x.fetch(0, 100, NONE, 1L << 40, NONE);
         x.addDevice();
@@ -1086,8 +985,8 @@ public final class FeedloomPromises {
     // ---- sums
 
     private static void meanVersions() {
-        promise = "37 meanVersions";
-        Feedloom x = withSources(1);
+        promise("37 meanVersions");
+        Reader x = withSources(1);
         due("no items", ARITHMETIC, x::meanVersions);
         plainItem(x, 0, 0);
         due("one", 1.0, x::meanVersions);
@@ -1098,9 +997,9 @@ public final class FeedloomPromises {
     }
 
     private static void isSound() {
-        promise = "38 isSound";
-        due("a new object", true, () -> new Feedloom().isSound());
-        Feedloom x = orderedRivers();
+        promise("38 isSound");
+        due("a new object", true, () -> new Reader().isSound());
+        Reader x = orderedRivers();
         x.addRule(3L << 2, 0L, 0, NONE, HIDE);
         x.addRiver(63, 5);
         due("with rivers", true, x::isSound);
@@ -1108,8 +1007,8 @@ public final class FeedloomPromises {
 
     /** As much of everything as there can be, so that each row is used to its last place. */
     private static void fullHouse() {
-        promise = "all limits at once";
-        Feedloom x = withSources(6);
+        promise("all limits at once");
+        Reader x = withSources(6);
         for (int i = 0; i < 30; i++) {
             plainItem(x, i % 6, i);
         }
@@ -1140,7 +1039,7 @@ public final class FeedloomPromises {
     }
 
     private static void constants() {
-        promise = "the constants";
+        promise("the constants");
         due("NONE", -1, () -> Feedloom.NONE);
         due("HIDE", 8, () -> Feedloom.HIDE);
         due("SHOW", 9, () -> Feedloom.SHOW);
