@@ -50,6 +50,11 @@ abstract class Checks {
 
     /** The call throws exactly the given class, and the object is afterwards as one that never got the call. */
     static void refused(String what, Reader x, Class<?> want, Callable<?> call) {
+        unchanged(what, x, want, call);
+    }
+
+    /** The call has the outcome that is due, and the object is afterwards as one that never got the call. */
+    static void unchanged(String what, Reader x, Object want, Callable<?> call) {
         Reader before = x.anew();
         due(what, want, call);
         for (Looks look : Looks.values()) {
