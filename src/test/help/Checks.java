@@ -57,9 +57,14 @@ abstract class Checks {
     static void unchanged(String what, Reader x, Object want, Callable<?> call) {
         Reader before = x.anew();
         due(what, want, call);
+        alikeSeen(what, before, x);
+    }
+
+    /** Whatever is asked of the one object is answered by the other in the same way. */
+    static void alikeSeen(String what, Reader one, Reader other) {
         for (Looks look : Looks.values()) {
             checked++;
-            if (!look.at(before.anew()).equals(look.at(x.anew()))) {
+            if (!look.at(one.anew()).equals(look.at(other.anew()))) {
                 wrong++;
                 System.out.println(promise + ": " + what + " changed what is seen by " + look);
             }

@@ -32,6 +32,7 @@ public final class FeedloomBounds extends Checks {
         ruleTagByALowerNumber();
         ruleHidesAndShows();
         ruleHoldsAsItIsThen();
+        ruleDropped();
         riverOrder();
         riverEachItemOnce();
         readAtTheMajorVersion();
@@ -44,6 +45,9 @@ public final class FeedloomBounds extends Checks {
         mergeGivesBothTheMark();
         mergeCountsBothWays();
         mergeAgain();
+        mergeWhatIsNotKnown();
+        markInPlaceOfTheOldOne();
+        markOfTheReaderOnANewDevice();
         lastWord();
         lastTag();
         lastSource();
@@ -560,6 +564,49 @@ public final class FeedloomBounds extends Checks {
         due("without the rule", 0, () -> x.riverSize(0));
     }
 
+    /** Each rule differs from the others in a condition and in its action, and some need the tags of those before. */
+    private static Reader withRulesBut(int dropped) {
+        Reader x = withSources(6);
+        x.setThreshold(100);
+        x.addRiver(63, 7);
+        x.addRiver(63, NONE);
+        x.fetch(5, 0, NONE, 1L, NONE);
+        x.fetch(0, 1, NONE, Long.MIN_VALUE, NONE);
+        x.fetch(1, 2, NONE, Long.MIN_VALUE | 1L, NONE);
+        x.fetch(5, 3, NONE, 2L, NONE);
+        x.fetch(2, 4, NONE, 4L, NONE);
+        long[] all = {1L, 0L, 0L, 0L, Long.MIN_VALUE, 1L};
+        long[] any = {0L, Long.MIN_VALUE | 2L, 0L, 3L, 0L, -1L};
+        int[] sources = {0, 0, 32, 0, 3, 33};
+        int[] tags = {NONE, NONE, NONE, 0, 1, NONE};
+        int[] actions = {0, 1, HIDE, 7, 2, SHOW};
+        for (int rule = 0; rule < 6; rule++) {
+            if (rule != dropped) {
+                x.addRule(all[rule], any[rule], sources[rule], tags[rule], actions[rule]);
+            }
+        }
+        return x;
+    }
+
+    private static void ruleDropped() {
+        promise("18 dropRule, as if the rule had never been");
+        for (int rule = 0; rule < 6; rule++) {
+            int n = rule;
+            Reader x = withRulesBut(NONE);
+            due("the rule " + n, 5, () -> x.dropRule(n));
+            alikeSeen("the rule " + n, withRulesBut(n), x);
+        }
+        Reader x = withRulesBut(3);
+        due("the last one", 4, () -> x.dropRule(4));
+        due("no more", INDEX, () -> x.dropRule(4));
+        due("the one before it", 3, () -> x.dropRule(3));
+        for (int left = 2; left >= 0; left--) {
+            int n = left;
+            due("the first one, with " + n + " left", n, () -> x.dropRule(0));
+        }
+        due("none is left", INDEX, () -> x.dropRule(0));
+    }
+
     // ---- rivers
 
     private static void riverOrder() {
@@ -709,24 +756,40 @@ public final class FeedloomBounds extends Checks {
         return x;
     }
 
-    /** The reader's mark, then the device's mark so many minutes later, or earlier, and which of both is there then. */
+    private static Reader withAllDevicesAndItems() {
+        Reader x = withSources(1);
+        for (int item = 0; item < 30; item++) {
+            plainItem(x, 0, item);
+        }
+        for (int device = 0; device < 4; device++) {
+            x.addDevice();
+        }
+        return x;
+    }
+
     private static void merged(String what, boolean want, boolean readers, boolean devices, int later) {
-        Reader x = withTwoDevices();
+        merged(what + ", first", want, readers, devices, later, 1, 0);
+        merged(what + ", last", want, readers, devices, later, 3, 29);
+    }
+
+    /** The reader's mark, then the device's mark so many minutes later, or earlier, and which of both is there then. */
+    private static void merged(String what, boolean want, boolean readers, boolean devices, int later, int device, int item) {
+        Reader x = withAllDevicesAndItems();
         if (later < 0) {
-            x.mark(1, 0, devices);
+            x.mark(device, item, devices);
             x.pass(-later);
         }
-        x.mark(0, 0, readers);
+        x.mark(0, item, readers);
         x.sync(0);
         if (later > 0) {
             x.pass(later);
         }
         if (later >= 0) {
-            x.mark(1, 0, devices);
+            x.mark(device, item, devices);
         }
-        due(what + ", sync", want == readers ? 0 : 1, () -> x.sync(1));
-        due(what + ", reader", want, () -> x.isRead(0));
-        due(what + ", device", want, () -> x.isReadOn(1, 0));
+        due(what + ", sync", want == readers ? 0 : 1, () -> x.sync(device));
+        due(what + ", reader", want, () -> x.isRead(item));
+        due(what + ", device", want, () -> x.isReadOn(device, item));
     }
 
     private static void mergeByMinute() {
@@ -747,13 +810,46 @@ public final class FeedloomBounds extends Checks {
         merged("the device's read", true, false, true, 0);
         merged("both read", true, true, true, 0);
         merged("both unread", false, false, false, 0);
-        Reader x = withThreeVersions();
+        mergeByKindBeforeVersion();
+    }
+
+    /** Two versions, of which the second one is not major; a device for each number of versions known. */
+    private static Reader withALikeVersion() {
+        Reader x = withSources(1);
+        x.fetch(0, 1, NONE, first(3), NONE);
+        x.addDevice();
+        x.fetch(0, 1, NONE, first(5), NONE);
+        x.addDevice();
+        return x;
+    }
+
+    private static void mergeByKindBeforeVersion() {
+        Reader x = withALikeVersion();
         x.mark(0, 0, true);
         x.sync(0);
         x.mark(1, 0, false);
-        due("a lower version that says read wins against a higher one that says unread", 0, () -> x.sync(1));
-        x.mark(1, 0, true);
-        due("and then loses as read against read", 1, () -> x.sync(1));
+        due("the reader's read of a lower version", 0, () -> x.sync(1));
+        due("it is read", true, () -> x.isRead(0));
+        due("on the device too", true, () -> x.isReadOn(1, 0));
+        Reader y = withALikeVersion();
+        y.mark(1, 0, false);
+        y.sync(1);
+        y.mark(0, 0, true);
+        due("the device's read of a lower version", 1, () -> y.sync(0));
+        due("it is read", true, () -> y.isRead(0));
+        Reader z = withALikeVersion();
+        z.mark(1, 0, true);
+        z.sync(1);
+        z.mark(0, 0, false);
+        due("the reader's read of a higher version", 0, () -> z.sync(0));
+        due("it is read", true, () -> z.isRead(0));
+        Reader w = withALikeVersion();
+        w.mark(1, 0, true);
+        w.sync(1);
+        w.pass(1);
+        w.mark(0, 0, false);
+        due("a later unread of a lower version", 1, () -> w.sync(0));
+        due("it is not read", false, () -> w.isRead(0));
     }
 
     private static void mergeByVersion() {
@@ -836,6 +932,63 @@ public final class FeedloomBounds extends Checks {
         due("later", 0, () -> x.sync(0));
         x.mark(1, 0, false);
         due("the device's mark has its minute, not that of the sync", 1, () -> x.sync(1));
+    }
+
+    private static void mergeWhatIsNotKnown() {
+        promise("items that the device does not know");
+        Reader x = withSources(1);
+        x.addDevice();
+        x.fetch(0, 1, NONE, 1L, NONE);
+        x.fetch(0, 2, NONE, 2L, NONE);
+        x.fetch(0, 3, NONE, 4L, NONE);
+        x.addDevice();
+        x.mark(1, 0, true);
+        x.mark(1, 1, false);
+        due("the reader gets two marks", 1, () -> x.sync(1));
+        due("nothing turns", 0, () -> x.sync(0));
+        due("read on the device", true, () -> x.isReadOn(0, 0));
+        due("unread on the device", false, () -> x.isReadOn(0, 1));
+        due("without a mark on the device", false, () -> x.isReadOn(0, 2));
+        due("known", 1, () -> x.knownVersions(0, 2));
+    }
+
+    private static void markInPlaceOfTheOldOne() {
+        promise("31 mark, in place of the mark that the device has");
+        Reader x = withTwoDevices();
+        x.mark(0, 0, true);
+        x.pass(1);
+        due("read before", true, () -> x.mark(0, 0, true));
+        x.mark(1, 0, false);
+        x.sync(0);
+        due("it has the new minute, in which read wins", 0, () -> x.sync(1));
+        Reader y = withTwoDevices();
+        y.mark(0, 0, true);
+        y.mark(0, 0, false);
+        due("unread in the minute of read", 0, () -> y.sync(0));
+        due("the old one is not there to win", false, () -> y.isReadOn(0, 0));
+        Reader z = withTwoDevices();
+        z.addRiver(1, NONE);
+        z.mark(0, 0, false);
+        z.pass(1);
+        due("by a river", 1, () -> z.markRiver(0, 0));
+        z.mark(1, 0, false);
+        z.sync(1);
+        due("it has the new minute too", 1, () -> z.sync(0));
+    }
+
+    private static void markOfTheReaderOnANewDevice() {
+        promise("30 addDevice, which has the reader's marks");
+        Reader x = withTwoDevices();
+        x.mark(0, 0, true);
+        x.sync(0);
+        x.pass(1);
+        x.mark(0, 0, false);
+        x.pass(1);
+        due("a new device", 2, x::addDevice);
+        due("it has the reader's mark", true, () -> x.isReadOn(2, 0));
+        x.sync(0);
+        due("with its minute, which is not that of the adding", 0, () -> x.sync(2));
+        due("so that it loses", false, () -> x.isReadOn(2, 0));
     }
 
     // ---- the ends of the sets
